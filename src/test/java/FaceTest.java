@@ -1,0 +1,116 @@
+import java.io.IOException;
+import java.lang.reflect.Constructor;
+import java.lang.reflect.Field;
+import java.lang.reflect.Method;
+import java.lang.reflect.Modifier;
+import java.nio.file.Files;
+import java.nio.file.Path;
+import java.util.Set;
+import java.util.TreeSet;
+import java.util.regex.Matcher;
+import java.util.regex.Pattern;
+
+/** The public face, and those rules of LANGUAGE.md that can be read off the class and its source. */
+public final class FaceTest {
+    private static final Check check = new Check();
+    private static final String[] FACE = {
+        "int type 2", "int wipe 1", "int fault 1", "int undo 1", "int calm 2", "int does 2", "int set 2", "int price 2",
+        "int read 2", "int dish 2", "int level 2", "int hiccups 1", "int broken 1", "int judged 0", "int armistice 1",
+        "int led 2", "long odds 3", "int heard 2", "int quiet 4", "int force 3", "int seen 3", "int forget 0",
+        "int fright 1", "int unlike 0", "int parrot 1", "int trained 2", "int sheet 3", "int lose 1", "int put 4",
+        "int get 3", "int copy 5", "int write 2", "int count 1", "long digest 0"};
+    private static final String[] NOT_ALLOWED = {
+        "throw", "throws", "try", "catch", "finally", "synchronized", "assert", "import", "package", "protected",
+        "volatile", "transient", "native", "strictfp", "Object", "hashCode", "toString", "equals", "HashMap", "Random",
+        "Thread", "Exact", "float", "double"};
+
+    public static void main(String[] args) throws IOException {
+        methods();
+        fieldsAndConstructors();
+        nested();
+        source(Files.readString(Path.of("src/main/java/HiccupPeace.java")));
+        check.end();
+    }
+
+    private static void methods() {
+        Set<String> due = new TreeSet<>(Set.of(FACE));
+        Set<String> names = new TreeSet<>();
+        Set<String> got = new TreeSet<>();
+        for (Method m : HiccupPeace.class.getDeclaredMethods()) {
+            if (Modifier.isPublic(m.getModifiers())) {
+                got.add(m.getReturnType().getName() + " " + m.getName() + " " + m.getParameterCount());
+                names.add(m.getName());
+                for (Class<?> type : m.getParameterTypes()) {
+                    check.isTrue("numbers of " + m.getName() + " are ints", type == int.class);
+                }
+            }
+        }
+        check.isTrue("the face is " + due + " and not " + got, due.equals(got));
+        for (Method m : HiccupPeace.class.getDeclaredMethods()) {
+            int how = m.getModifiers();
+            check.isTrue(m + " is public or private", Modifier.isPublic(how) || Modifier.isPrivate(how));
+            check.isTrue(m + " bears no public name", Modifier.isPublic(how) || !names.contains(m.getName()));
+            check.isTrue(m + " takes seven at most", m.getParameterCount() <= 7);
+        }
+    }
+
+    private static void fieldsAndConstructors() {
+        check.due("NONE", HiccupPeace.NONE, -1);
+        check.due("BAD", HiccupPeace.BAD, -2);
+        check.due("NOT", HiccupPeace.NOT, -3);
+        check.due("FULL", HiccupPeace.FULL, -4);
+        Set<String> open = new TreeSet<>();
+        for (Field f : HiccupPeace.class.getDeclaredFields()) {
+            if (!Modifier.isPrivate(f.getModifiers())) {
+                open.add(Modifier.toString(f.getModifiers()) + " " + f.getType() + " " + f.getName());
+            }
+            check.isTrue(f + " is final if static", !Modifier.isStatic(f.getModifiers())
+                    || Modifier.isFinal(f.getModifiers()));
+        }
+        String constant = "public static final int ";
+        check.isTrue("the constants: " + open, open.equals(Set.of(
+                constant + "NONE", constant + "BAD", constant + "NOT", constant + "FULL")));
+        Constructor<?>[] all = HiccupPeace.class.getDeclaredConstructors();
+        check.due("constructors", all.length, 1);
+        check.isTrue("it is public and takes nothing", Modifier.isPublic(all[0].getModifiers())
+                && all[0].getParameterCount() == 0);
+        int how = HiccupPeace.class.getModifiers();
+        check.isTrue("the class is public and final", Modifier.isPublic(how) && Modifier.isFinal(how));
+        check.isTrue("it has no package", HiccupPeace.class.getPackageName().isEmpty());
+    }
+
+    private static void nested() {
+        Class<?>[] inside = HiccupPeace.class.getDeclaredClasses();
+        check.isTrue("some twelve classes at most", inside.length < 12);
+        for (Class<?> c : inside) {
+            check.isTrue(c + " is static", Modifier.isStatic(c.getModifiers()));
+            check.isTrue(c + " is not public", !Modifier.isPublic(c.getModifiers()));
+            long own = java.util.Arrays.stream(c.getDeclaredFields())
+                    .filter(f -> !Modifier.isStatic(f.getModifiers())).count();
+            check.isTrue(c + " has some twenty fields at most", own <= 20);
+        }
+    }
+
+    private static void source(String text) {
+        String code = text.replaceAll("(?s)/\\*.*?\\*/", " ").replaceAll("//[^\n]*", " ");
+        for (String word : NOT_ALLOWED) {
+            Matcher m = Pattern.compile("\\b" + word + "\\b").matcher(code);
+            check.isTrue("the source does without " + word, !m.find());
+        }
+        check.isTrue("no lambda", !code.contains("->"));
+        check.isTrue("no method reference", !code.contains("::"));
+        check.isTrue("plain signs alone", text.chars().allMatch(c -> c == '\n' || c >= 32 && c < 127));
+        int from = -1;
+        int line = 0;
+        for (String row : text.split("\n")) {
+            line++;
+            if (row.matches(" {4,8}\\S.*\\(.*\\) \\{")) {
+                from = line;
+            }
+            if (row.matches(" {4,8}\\}") && from >= 0) {
+                check.isTrue("the method at line " + from + " is short", line - from <= 60);
+                from = -1;
+            }
+        }
+    }
+}
