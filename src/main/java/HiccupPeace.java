@@ -60,7 +60,7 @@ public final class HiccupPeace {
         if (!isGeneral(general)) {
             return BAD;
         }
-        return generals[general].firstFault();
+        return generals[general].faultPlace;
     }
 
     public int undo(int general) {
@@ -141,7 +141,7 @@ public final class HiccupPeace {
         if (!isGeneral(general)) {
             return BAD;
         }
-        return hiccupHours(general);
+        return hoursOf(general);
     }
 
     public int broken(int law) {
@@ -244,7 +244,7 @@ public final class HiccupPeace {
             return BAD;
         }
         int start = dayOf(general).levelAhead(from);
-        planner.plan(rules, hiccupHours(1 - general), from, to);
+        planner.plan(rules, hoursOf(1 - general), from, to);
         if (planner.costFrom(from, start) >= BEYOND_ALL_COSTS) {
             return NONE;
         }
@@ -305,7 +305,7 @@ public final class HiccupPeace {
     public int unlike() {
         int sum = 0;
         for (int g = 0; g < GENERALS; g++) {
-            sum += sightings.unlikeOf(g, hiccupHours(g));
+            sum += sightings.unlikeOf(g, hoursOf(g));
         }
         return sum;
     }
@@ -314,15 +314,15 @@ public final class HiccupPeace {
         if (!isSide(general)) {
             return BAD;
         }
-        int his = hiccupHours(general);
-        return (his << 1) & hiccupHours(1 - general) & ~his;
+        int his = hoursOf(general);
+        return (his << 1) & hoursOf(1 - general) & ~his;
     }
 
     public int trained(int general, int what) {
         if (!isSide(general) || !within(what, 0, 2)) {
             return BAD;
         }
-        int model = hiccupHours(general);
+        int model = hoursOf(general);
         if (what == 0) {
             return likeHours(model, 0);
         }
@@ -447,18 +447,36 @@ public final class HiccupPeace {
     public long digest() {
         long h = 17;
         for (int what = 0; what <= 7; what++) {
-            h = mix(h, count(what));
+            h = 31 * h + count(what);
         }
         for (int g = 0; g < GENERALS; g++) {
-            h = mixGeneral(h, g);
+            h = 31 * h + fault(g);
+            h = 31 * h + hiccups(g);
+            h = 31 * h + level(g, 0);
+            h = 31 * h + level(g, 9);
+            h = 31 * h + level(g, 23);
+            h = 31 * h + heard(g, 7);
+            h = 31 * h + fright(g);
         }
-        h = mixPeace(h);
-        h = mixPlans(h);
-        h = mix(h, unlike());
-        h = mix(h, parrot(0));
-        h = mix(h, parrot(1));
+        for (int law = 0; law < LAWS; law++) {
+            h = 31 * h + broken(law);
+        }
+        h = 31 * h + judged();
+        h = 31 * h + armistice(0);
+        h = 31 * h + armistice(1);
+        h = 31 * h + odds(4, 5, 0);
+        h = 31 * h + odds(4, 5, 1);
+        for (int g = 0; g < TRAINEE; g++) {
+            h = 31 * h + quiet(g, 2, 9, NONE);
+            h = 31 * h + quiet(g, 2, 9, 0);
+        }
+        h = 31 * h + force(3, 6, 0);
+        h = 31 * h + force(3, 6, 1);
+        h = 31 * h + unlike();
+        h = 31 * h + parrot(0);
+        h = 31 * h + parrot(1);
         for (int what = 0; what <= 2; what++) {
-            h = mix(h, trained(0, what));
+            h = 31 * h + trained(0, what);
         }
         return h;
     }
@@ -546,13 +564,13 @@ public final class HiccupPeace {
         return day;
     }
 
-    private int hiccupHours(int general) {
+    private int hoursOf(int general) {
         return dayOf(general).hiccupHours(rules);
     }
 
     private int brokenHours(int law) {
-        int one = hiccupHours(0);
-        int other = hiccupHours(1);
+        int one = hoursOf(0);
+        int other = hoursOf(1);
         if (law == LAW_EITHER) {
             return one | other;
         }
@@ -578,52 +596,20 @@ public final class HiccupPeace {
         return sum;
     }
 
-    private static long mix(long h, long v) {
-        return 31 * h + v;
-    }
-
-    private long mixGeneral(long soFar, int g) {
-        long h = mix(soFar, fault(g));
-        h = mix(h, hiccups(g));
-        h = mix(h, level(g, 0));
-        h = mix(h, level(g, 9));
-        h = mix(h, level(g, 23));
-        h = mix(h, heard(g, 7));
-        return mix(h, fright(g));
-    }
-
-    private long mixPeace(long soFar) {
-        long h = soFar;
-        for (int law = 0; law < LAWS; law++) {
-            h = mix(h, broken(law));
-        }
-        h = mix(h, judged());
-        h = mix(h, armistice(0));
-        h = mix(h, armistice(1));
-        h = mix(h, odds(4, 5, 0));
-        return mix(h, odds(4, 5, 1));
-    }
-
-    private long mixPlans(long soFar) {
-        long h = soFar;
-        for (int g = 0; g < TRAINEE; g++) {
-            h = mix(h, quiet(g, 2, 9, NONE));
-            h = mix(h, quiet(g, 2, 9, 0));
-        }
-        h = mix(h, force(3, 6, 0));
-        return mix(h, force(3, 6, 1));
-    }
-
     /** What one general is given, as it was told, and his level ahead of hour 0. */
     private static final class General {
         /** The dish of each byte; NONE where it is no letter, for nothing asks which byte that was. */
         final int[] menu = new int[HOURS];
         int size = 0;
+        int faultPlace = NONE;
         int calmLevel = 3;
 
         int append(int dish) {
             if (size >= HOURS) {
                 return FULL;
+            }
+            if (dish == NONE && faultPlace == NONE) {
+                faultPlace = size;
             }
             menu[size] = dish;
             size++;
@@ -633,6 +619,7 @@ public final class HiccupPeace {
         int clearMenu() {
             int had = size;
             size = 0;
+            faultPlace = NONE;
             return had;
         }
 
@@ -641,12 +628,16 @@ public final class HiccupPeace {
                 return NOT;
             }
             size--;
+            if (faultPlace == size) {
+                faultPlace = NONE;
+            }
             return size;
         }
 
         int takeMenu(Sheet from) {
             int most = Math.min(from.size, HOURS);
             size = 0;
+            faultPlace = NONE;
             while (size < most && isDish(from.items[size])) {
                 menu[size] = from.items[size];
                 size++;
@@ -654,17 +645,8 @@ public final class HiccupPeace {
             return size;
         }
 
-        int firstFault() {
-            for (int place = 0; place < size; place++) {
-                if (menu[place] == NONE) {
-                    return place;
-                }
-            }
-            return NONE;
-        }
-
         int dishesTold() {
-            return firstFault() == NONE ? size : 0;
+            return faultPlace == NONE ? size : 0;
         }
 
         int dishAt(int place) {
@@ -681,8 +663,11 @@ public final class HiccupPeace {
         int forbidden = 0;
 
         int levelAfter(int level, int dish) {
-            int moved = isDish(dish) ? level + effects[dish] : level;
-            return Math.max(0, Math.min(LEVELS - 1, moved));
+            int moved = dish >= 0 && dish < DISHES ? level + effects[dish] : level;
+            if (moved < 0) {
+                return 0;
+            }
+            return moved < LEVELS ? moved : LEVELS - 1;
         }
 
         boolean hiccupsAt(int level, int dish) {

@@ -5,7 +5,9 @@ import java.lang.reflect.Method;
 import java.lang.reflect.Modifier;
 import java.nio.file.Files;
 import java.nio.file.Path;
+import java.util.Map;
 import java.util.Set;
+import java.util.TreeMap;
 import java.util.TreeSet;
 import java.util.regex.Matcher;
 import java.util.regex.Pattern;
@@ -100,17 +102,36 @@ public final class FaceTest {
         check.isTrue("no lambda", !code.contains("->"));
         check.isTrue("no method reference", !code.contains("::"));
         check.isTrue("plain signs alone", text.chars().allMatch(c -> c == '\n' || c >= 32 && c < 127));
-        int from = -1;
-        int line = 0;
-        for (String row : text.split("\n")) {
-            line++;
-            if (row.matches(" {4,8}\\S.*\\(.*\\) \\{")) {
-                from = line;
-            }
-            if (row.matches(" {4,8}\\}") && from >= 0) {
-                check.isTrue("the method at line " + from + " is short", line - from <= 60);
-                from = -1;
+        Map<String, String> bodies = bodies(code);
+        check.isTrue("the methods are found", bodies.size() > FACE.length);
+        for (String name : bodies.keySet()) {
+            check.isTrue(name + " is short", bodies.get(name).lines().count() <= 60);
+            int deep = depth(bodies, name, 1);
+            check.isTrue(name + " goes " + deep + " calls deep, eight at most", deep <= 8);
+        }
+    }
+
+    /** Each method's name, which is its own in the whole file, with its lines. */
+    private static Map<String, String> bodies(String code) {
+        Map<String, String> found = new TreeMap<>();
+        Matcher m = Pattern.compile("(?ms)^( {4}| {8})(?:[a-zA-Z\\[\\]]+ )+(\\w+)\\([^)]*\\) \\{\n(.*?)^\\1\\}").matcher(code);
+        while (m.find()) {
+            check.isTrue("one method alone is called " + m.group(2), found.put(m.group(2), m.group(3)) == null);
+        }
+        return found;
+    }
+
+    private static int depth(Map<String, String> bodies, String name, int above) {
+        if (above > 40) {
+            return above;
+        }
+        int deepest = above;
+        Matcher m = Pattern.compile("\\b(\\w+)\\(").matcher(bodies.get(name));
+        while (m.find()) {
+            if (bodies.containsKey(m.group(1))) {
+                deepest = Math.max(deepest, depth(bodies, m.group(1), above + 1));
             }
         }
+        return deepest;
     }
 }

@@ -80,6 +80,7 @@ public final class MenusTest {
         check.due("told with a fault", x.count(1), 0);
         check.due("dish with a fault", x.dish(1, 0), 0);
         x.undo(1);
+        check.due("the first fault stays", x.fault(1), 1);
         x.undo(1);
         check.due("mended", x.fault(1), Check.NONE);
         check.due("dish when mended", x.dish(1, 0), 1);

@@ -276,11 +276,11 @@ final class Model {
         BigInteger above = BigInteger.ONE;
         BigInteger below = BigInteger.ONE;
         for (int h = hour; h < hour + n; h++) {
+            int one = full(0).charAt(h) == 's' ? 0 : levels(full(0), calms[0])[h + 1];
+            int other = full(1).charAt(h) == 's' ? 0 : levels(full(1), calms[1])[h + 1];
             int free = 0;
             for (int lots = 0; lots < 256; lots++) {
-                boolean a = full(0).charAt(h) != 's' && lots / 16 < levels(full(0), calms[0])[h + 1];
-                boolean b = full(1).charAt(h) != 's' && lots % 16 < levels(full(1), calms[1])[h + 1];
-                free += a && b ? 0 : 1;
+                free += lots / 16 < one && lots % 16 < other ? 0 : 1;
             }
             above = above.multiply(BigInteger.valueOf(free));
             below = below.multiply(BigInteger.valueOf(256));
@@ -293,13 +293,15 @@ final class Model {
         range(g, 0, 2);
         BigInteger wrap = BigInteger.ONE.shiftLeft(32);
         BigInteger state = BigInteger.valueOf(seed).mod(wrap);
+        String menu = full(g);
+        int[] levels = levels(menu, calms[g]);
         boolean[] row = new boolean[24];
         for (int draw = 0; draw < 72; draw++) {
             state = state.multiply(BigInteger.valueOf(1103515245)).add(BigInteger.valueOf(12345)).mod(wrap);
             int lot = state.shiftRight(16).intValueExact() % 16;
             int h = draw / 3;
-            if (draw % 3 == g && full(g).charAt(h) != 's') {
-                row[h] = lot < levels(full(g), calms[g])[h + 1];
+            if (draw % 3 == g && menu.charAt(h) != 's') {
+                row[h] = lot < levels[h + 1];
             }
         }
         return bits(row);
@@ -406,9 +408,10 @@ final class Model {
 
     private int fright(int g) {
         range(g, 0, 2);
+        String menu = full(g);
         boolean[] row = new boolean[24];
         for (int h = 0; h < 24; h++) {
-            String had = full(g).substring(0, h) + "f" + full(g).substring(h + 1);
+            String had = menu.substring(0, h) + "f" + menu.substring(h + 1);
             row[h] = unlikeOf(g, hic(had, calms[g])) == 0;
         }
         return bits(row);
@@ -420,20 +423,24 @@ final class Model {
 
     private int parrot(int g) {
         range(g, 0, 1);
+        boolean[] his = hic(g);
+        boolean[] other = hic(1 - g);
         boolean[] row = new boolean[24];
         for (int h = 1; h < 24; h++) {
-            row[h] = hic(g)[h - 1] && hic(1 - g)[h] && !hic(g)[h];
+            row[h] = his[h - 1] && other[h] && !his[h];
         }
         return bits(row);
     }
 
     private int[] trained(int g) {
         int[] found = {0, -1, 0};
+        boolean[] model = hic(g);
+        String menu = full(2);
         for (int k = 0; k < 24; k++) {
-            boolean[] his = hic(("n".repeat(k) + full(2)).substring(0, 24), calms[2]);
+            boolean[] his = hic(("n".repeat(k) + menu).substring(0, 24), calms[2]);
             int like = 0;
             for (int h = 0; h < 24; h++) {
-                like += his[h] == hic(g)[h] ? 1 : 0;
+                like += his[h] == model[h] ? 1 : 0;
             }
             found[0] = k == 0 ? like : found[0];
             if (like > found[1]) {
@@ -522,8 +529,9 @@ final class Model {
         range(s, 0, 3);
         int size = Math.min(24, sizeOf(sheets[s]));
         int form = sheets[s] instanceof byte[] ? 0 : sheets[s] instanceof short[] ? 1 : 2;
+        int[] levels = levels(full(g), calms[g]);
         for (int k = 0; k < size; k++) {
-            put(s, form, k, levels(full(g), calms[g])[k + 1]);
+            put(s, form, k, levels[k + 1]);
         }
         return size;
     }

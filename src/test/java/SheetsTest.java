@@ -236,6 +236,21 @@ public final class SheetsTest {
         y.seen(1, 1, 0);
         check.due("digest", y.digest(), new HiccupPeaceDigest().of(y));
         check.due("it changes nothing", y.digest(), new HiccupPeaceDigest().of(y));
+        // war by bread alone: from 2 on it takes seven hours to 9, from 3 on six, from 4 on five
+        for (int calm = 2; calm <= 4; calm++) {
+            HiccupPeace z = new HiccupPeace();
+            z.set(0, 9);
+            z.set(2, 124);
+            z.calm(0, 9);
+            z.calm(1, calm);
+            check.due("in six hours", z.force(3, 6, 0), calm == 2 ? 0 : 1);
+            check.due("digest by force", z.digest(), new HiccupPeaceDigest().of(z));
+        }
+        HiccupPeace w = Check.typed("ccccccccccccbbb", "cccccccccvbfnc", "bvbbcvbbbcvb");
+        for (int dish = 0; dish < 7; dish++) {
+            w.price(dish, 10 + dish);
+        }
+        check.due("digest by hours and prices", w.digest(), new HiccupPeaceDigest().of(w));
     }
 
     /** The digest by the public calls, row by row as the document lists them. */
