@@ -195,14 +195,17 @@ public final class HoursTest {
     private static void promise19Heard() {
         HiccupPeace x = Check.typed("cc", "", "ccsss");
         x.set(0, 10);
+        int[] chances = new int[72];
+        for (int k = 0; k < chances.length; k++) {
+            chances[k] = x.dish(k % 3, k / 3) == 5 ? 0 : x.level(k % 3, k / 3);
+        }
         for (int seed : new int[] {0, 1, 7, -1, Integer.MIN_VALUE, Integer.MAX_VALUE, 987654321}) {
             int[] due = new int[3];
             long state = seed & 0xFFFFFFFFL;
             for (int hour = 0; hour < 24; hour++) {
                 for (int g = 0; g < 3; g++) {
                     state = (1103515245L * state + 12345L) & 0xFFFFFFFFL;
-                    boolean asleep = x.dish(g, hour) == 5;
-                    if (!asleep && (state >> 16) % 16 < x.level(g, hour)) {
+                    if ((state >> 16) % 16 < chances[3 * hour + g]) {
                         due[g] |= 1 << hour;
                     }
                 }

@@ -85,9 +85,9 @@ public final class MenusTest {
         check.due("mended", x.fault(1), Check.NONE);
         check.due("dish when mended", x.dish(1, 0), 1);
         for (int b = 0; b < 256; b++) {
-            x.wipe(0);
-            x.type(0, b);
-            check.due("fault of byte " + b, x.fault(0), "nbcvfsh".indexOf(b) >= 0 ? Check.NONE : 0);
+            HiccupPeace y = new HiccupPeace();
+            y.type(0, b);
+            check.due("fault of byte " + b, y.fault(0), "nbcvfsh".indexOf(b) >= 0 ? Check.NONE : 0);
         }
         check.due("fault 3", x.fault(3), Check.BAD);
         check.due("fault -1", x.fault(-1), Check.BAD);

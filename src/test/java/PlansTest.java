@@ -107,7 +107,7 @@ public final class PlansTest {
     private static void promise20QuietByTryingAll() {
         java.util.Random random = new java.util.Random(20);
         for (int round = 0; round < 120; round++) {
-            HiccupPeace x = mixed(random);
+            HiccupPeace x = mixed(new java.util.Random(round));
             int general = random.nextInt(2);
             int from = random.nextInt(5);
             int n = 1 + random.nextInt(3);
@@ -126,7 +126,8 @@ public final class PlansTest {
             int bestCost = Check.NONE;
             int best = 0;
             for (int row = 0; row < all; row++) {
-                int cost = costOf(x, general, ahead, n, row, forbidden);
+                // each try has an object of its own, as one is good for 512 calls
+                int cost = costOf(mixed(new java.util.Random(round)), general, ahead, n, row, forbidden);
                 if (cost >= 0 && (bestCost == Check.NONE || cost < bestCost)) {
                     bestCost = cost;
                     best = row;

@@ -1,4 +1,3 @@
-import java.lang.reflect.Method;
 import java.util.ArrayList;
 import java.util.Arrays;
 import java.util.List;
@@ -22,7 +21,7 @@ public final class RandomRunsTest {
         "put 0 3 0 2 0 8 0 6", "get 0 3 0 2 0 12", "get 0 3 0 2 0 48", "copy 0 3 0 9 0 3 0 9 0 9", "copy 0 1 0 2 0 1 0 2 0 2",
         "write 0 2 0 3", "count 0 8", "digest"};
 
-    public static void main(String[] args) throws ReflectiveOperationException {
+    public static void main(String[] args) {
         Random random = new Random(1);
         for (int run = 0; run < RUNS; run++) {
             if (!runAgrees(random, run)) {
@@ -32,7 +31,7 @@ public final class RandomRunsTest {
         check.end();
     }
 
-    private static boolean runAgrees(Random random, int run) throws ReflectiveOperationException {
+    private static boolean runAgrees(Random random, int run) {
         HiccupPeace x = new HiccupPeace();
         Model model = new Model();
         List<String> calls = new ArrayList<>();
@@ -44,9 +43,9 @@ public final class RandomRunsTest {
                 continue;
             }
             int[] numbers = numbers(random, words, wrongOneIn);
-            String told = words[0] + Arrays.toString(numbers);
+            String told = Acts.told(words[0], numbers);
             calls.add(told);
-            long got = invoke(x, words[0], numbers);
+            long got = Acts.call(x, words[0], numbers);
             long due = model.call(words[0], numbers);
             if (got != due) {
                 System.out.println("run " + run + ": " + calls);
@@ -86,16 +85,5 @@ public final class RandomRunsTest {
             return edges[random.nextInt(edges.length)];
         }
         return least + random.nextInt(most - least + 1);
-    }
-
-    private static long invoke(HiccupPeace x, String act, int[] numbers) throws ReflectiveOperationException {
-        Class<?>[] types = new Class<?>[numbers.length];
-        Object[] values = new Object[numbers.length];
-        for (int k = 0; k < numbers.length; k++) {
-            types[k] = int.class;
-            values[k] = numbers[k];
-        }
-        Method method = HiccupPeace.class.getMethod(act, types);
-        return ((Number) method.invoke(x, values)).longValue();
     }
 }
