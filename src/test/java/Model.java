@@ -545,24 +545,10 @@ final class Model {
         return counts[what];
     }
 
-    private static final String[] DIGESTED = {
-        "count 0", "count 1", "count 2", "count 3", "count 4", "count 5", "count 6", "count 7",
-        "fault 0", "hiccups 0", "level 0 0", "level 0 9", "level 0 23", "heard 0 7", "fright 0",
-        "fault 1", "hiccups 1", "level 1 0", "level 1 9", "level 1 23", "heard 1 7", "fright 1",
-        "fault 2", "hiccups 2", "level 2 0", "level 2 9", "level 2 23", "heard 2 7", "fright 2",
-        "broken 0", "broken 1", "broken 2", "judged", "armistice 0", "armistice 1", "odds 4 5 0", "odds 4 5 1",
-        "quiet 0 2 9 -1", "quiet 0 2 9 0", "quiet 1 2 9 -1", "quiet 1 2 9 0", "force 3 6 0", "force 3 6 1",
-        "unlike", "parrot 0", "parrot 1", "trained 0 0", "trained 0 1", "trained 0 2"};
-
     private long digest() {
         long h = 17;
-        for (String row : DIGESTED) {
-            String[] words = row.split(" ");
-            int[] a = new int[words.length - 1];
-            for (int k = 0; k < a.length; k++) {
-                a[k] = Integer.parseInt(words[k + 1]);
-            }
-            h = h * 31 + answer(words[0], a);
+        for (String row : Acts.DIGESTED) {
+            h = h * 31 + answer(Acts.name(row), Acts.numbers(row));
         }
         return h;
     }

@@ -65,6 +65,18 @@ final class PlanSentences {
             s.due("hour " + (4 + i), y.quiet(0, 4, 7, i), due[i]);
         }
         s.due("their cost", y.quiet(0, 4, 7, NONE), 0);
+        // he may have champagne whenever the other one does not hiccup, and must be frightened when he does
+        HiccupPeace z = States.byHours(0, 0xAAAAAA);
+        z.price(0, 1);
+        z.price(2, 0);
+        z.price(4, 0);
+        z.set(2, NO_SLEEP);
+        for (int i = 0; i < 24; i++) {
+            s.due("in turn from hour 0, " + i, z.quiet(0, 0, 23, i), i % 2 == 0 ? 2 : 4);
+        }
+        for (int i = 0; i < 21; i++) {
+            s.due("in turn from hour 3, " + i, z.quiet(0, 3, 23, i), i % 2 == 0 ? 4 : 2);
+        }
     }
 
     private void quietNone() {

@@ -77,6 +77,11 @@ final class SheetSentences {
                 s.due("the next one is not", x.lose((sheet + 1) % 4), 2);
             }
         }
+        HiccupPeace busy = States.busy();
+        busy.lose(0);
+        itemsDue("the shorts stay", busy, 1, 1, 300, 1, -32768, 5);
+        itemsDue("the ints stay", busy, 2, 2, LEAST, 4, 70000);
+        s.due("what went well is no finding", busy.count(8), 5);
         s.says("BAD;");
         s.badBeyond("lose", 0, 0, 3, 0);
         s.says("NULL.");
@@ -370,25 +375,12 @@ final class SheetSentences {
         s.badBeyond("count", 0, 0, 8, 0);
     }
 
-    private static final String[] DIGESTED = {
-        "count 0", "count 1", "count 2", "count 3", "count 4", "count 5", "count 6", "count 7",
-        "fault 0", "hiccups 0", "level 0 0", "level 0 9", "level 0 23", "heard 0 7", "fright 0",
-        "fault 1", "hiccups 1", "level 1 0", "level 1 9", "level 1 23", "heard 1 7", "fright 1",
-        "fault 2", "hiccups 2", "level 2 0", "level 2 9", "level 2 23", "heard 2 7", "fright 2",
-        "broken 0", "broken 1", "broken 2", "judged", "armistice 0", "armistice 1", "odds 4 5 0", "odds 4 5 1",
-        "quiet 0 2 9 -1", "quiet 0 2 9 0", "quiet 1 2 9 -1", "quiet 1 2 9 0", "force 3 6 0", "force 3 6 1",
-        "unlike", "parrot 0", "parrot 1", "trained 0 0", "trained 0 1", "trained 0 2"};
-
     /** By numbers without an end, cut to 64 bits at last. */
     private static long digestOf(HiccupPeace x) {
         BigInteger h = BigInteger.valueOf(17);
-        for (String row : DIGESTED) {
-            String[] words = row.split(" ");
-            int[] numbers = new int[words.length - 1];
-            for (int k = 0; k < numbers.length; k++) {
-                numbers[k] = Integer.parseInt(words[k + 1]);
-            }
-            h = h.multiply(BigInteger.valueOf(31)).add(BigInteger.valueOf(Acts.call(x, words[0], numbers)));
+        for (String row : Acts.DIGESTED) {
+            long answer = Acts.call(x, Acts.name(row), Acts.numbers(row));
+            h = h.multiply(BigInteger.valueOf(31)).add(BigInteger.valueOf(answer));
         }
         return h.longValue();
     }
@@ -397,6 +389,19 @@ final class SheetSentences {
     private static HiccupPeace byBread(int calm) {
         HiccupPeace x = States.byLevels(9, calm, 6);
         x.set(0, 9);
+        x.set(2, 124);
+        return x;
+    }
+
+    /** The other one hiccups in one hour alone; by bread he falls by one each hour, from 9 to just below the mark. */
+    private static HiccupPeace downByOne(int general, int hour, int mark) {
+        int[] hours = {0, 0};
+        hours[1 - general] = Check.hours(hour);
+        HiccupPeace x = States.byHours(hours);
+        x.wipe(general);
+        x.calm(general, 9);
+        x.does(1, -1);
+        x.set(0, mark);
         x.set(2, 124);
         return x;
     }
@@ -426,6 +431,18 @@ final class SheetSentences {
             dear.price(dish, 3 + 5 * dish);
         }
         s.due("at a cost", dear.digest(), digestOf(dear));
+        for (int g = 0; g < 2; g++) {
+            HiccupPeace nine = downByOne(g, 9, 2);
+            s.due("bread first, for hour 9", nine.quiet(g, 2, 9, 0), 1);
+            s.due("up to hour 9", nine.digest(), digestOf(nine));
+            HiccupPeace ten = downByOne(g, 10, 1);
+            s.due("nothing first, as hour 10 is beyond it", ten.quiet(g, 2, 9, 0), 0);
+            s.due("not up to hour 10", ten.digest(), digestOf(ten));
+        }
+        HiccupPeace two = States.byHours(Check.ALL_HOURS, Check.hours(2));
+        two.set(2, 126);
+        s.due("behind hour 2", two.force(3, 6, 0), 1);
+        s.due("war from hour 3 on", two.digest(), digestOf(two));
         s.says("unlike(), parrot() 0, 1, trained(0, 0 to 2);");
         HiccupPeace busy = States.busy();
         s.due("busy", busy.digest(), digestOf(busy));

@@ -161,6 +161,9 @@ final class TermsFourSentences {
         v.does(0, 1);
         // on by 4 he does in hours 1 to 3, and from hour 9 on again
         trainedDue("nothing does what it does", v, 3, 8, 4);
+        HiccupPeace last = new HiccupPeace();
+        Check.type(last, 2, "c");
+        trainedDue("by 23 at most, though by 24 he would be like in all hours", last, 0, 23, 23);
         HiccupPeace fault = States.byHours(Check.hours(9), 0);
         Check.type(fault, 2, "cfx");
         trainedDue("with a fault there is nothing to move", fault, 23, 23, 0);

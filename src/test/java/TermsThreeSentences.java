@@ -202,6 +202,13 @@ final class TermsThreeSentences {
         z.set(2, NO_SLEEP);
         s.due("a fright too", z.force(0, 12, 0), 0);
         s.badBeyond("force", 1, 1, 12, 0, 1, 0);
+        // general 0 falls by one each hour while general 1 rises: 9 and 2 become 6 and 5
+        HiccupPeace w = States.byLevels(9, 2);
+        w.does(0, -1);
+        w.set(2, NOTHING_ALONE - 2);
+        for (int n = 1; n <= 12; n++) {
+            s.due("falling, in " + n, w.force(0, n, 0), n >= 3 ? 1 : 0);
+        }
     }
 
     private void forceWhether() {
@@ -220,6 +227,21 @@ final class TermsThreeSentences {
                 s.due("none comes to 10", x.force(3, 12, 0), 0);
             }
         }
+        HiccupPeace y = States.byLevels(0, 0);
+        y.set(2, NOTHING_ALONE);
+        y.does(0, 1);
+        s.due("nothing brings both to it", y.force(0, 5, 0), 1);
+        s.due("but not in four hours", y.force(0, 4, 0), 0);
+        s.due("and so in twelve", y.force(0, 12, 0), 1);
+        y.does(0, 9);
+        s.due("at once, and nobody may wait", y.force(0, 1, 0), 1);
+        y.calm(0, 9);
+        y.calm(1, 9);
+        y.does(0, -9);
+        s.due("nothing calms both, whatever was asked before", y.force(0, 12, 0), 0);
+        y.calm(1, 5);
+        y.does(0, -1);
+        s.due("nothing calms the one, and there is no other dish", y.force(0, 12, 0), 0);
     }
 
     private void forceFirst() {
