@@ -10,7 +10,7 @@ public final class HiccupPeace {
     private static final int LAWS = 3, LAW_EITHER = 1, LAW_HOUR_AHEAD = 2;
     private static final int ALL_BUT_NOTHING = 126;
     private static final int DEAREST = 99, BEYOND_ALL_COSTS = 1000000;
-    private static final int LOT_SIDES = 16;
+    private static final int LOT_SIDES = 16, HALVINGS_AN_HOUR = 8;
     private static final int MOST_ODDS_HOURS = 7, MOST_WAR_HOURS = 12;
     private static final int MOST_SIGHTINGS = 8;
     private static final int SHEETS = 4, MOST_ITEMS = 48;
@@ -208,7 +208,7 @@ public final class HiccupPeace {
             below *= LOT_SIDES * LOT_SIDES;
         }
         // what stands below is a power of two, so halving is all that lowest terms need
-        while (below > 1 && above % 2 == 0) {
+        for (int halved = 0; halved < n * HALVINGS_AN_HOUR && above % 2 == 0; halved++) {
             above /= 2;
             below /= 2;
         }
@@ -635,12 +635,10 @@ public final class HiccupPeace {
         }
 
         int takeMenu(Sheet from) {
+            clearMenu();
             int most = Math.min(from.size, HOURS);
-            size = 0;
-            faultPlace = NONE;
-            while (size < most && isDish(from.items[size])) {
-                menu[size] = from.items[size];
-                size++;
+            for (int i = 0; i < most && isDish(from.items[i]); i++) {
+                append(from.items[i]);
             }
             return size;
         }

@@ -6,6 +6,7 @@ import java.lang.reflect.Modifier;
 import java.nio.file.Files;
 import java.nio.file.Path;
 import java.util.ArrayList;
+import java.util.LinkedHashMap;
 import java.util.List;
 import java.util.Map;
 import java.util.Set;
@@ -17,31 +18,35 @@ import java.util.regex.Pattern;
 /** The public face, and those rules of LANGUAGE.md that can be read off the class and its source. */
 public final class FaceTest {
     private static final Check check = new Check();
-    private static final String[] FACE = {
-        "int type 2", "int wipe 1", "int fault 1", "int undo 1", "int calm 2", "int does 2", "int set 2", "int price 2",
-        "int read 2", "int dish 2", "int level 2", "int hiccups 1", "int broken 1", "int judged 0", "int armistice 1",
-        "int led 2", "long odds 3", "int heard 2", "int quiet 4", "int force 3", "int seen 3", "int forget 0",
-        "int fright 1", "int unlike 0", "int parrot 1", "int trained 2", "int sheet 3", "int lose 1", "int put 4",
-        "int get 3", "int copy 5", "int write 2", "int count 1", "long digest 0"};
+    private static final int CALLS = 34;
     private static final String[] NOT_ALLOWED = {
         "throw", "throws", "try", "catch", "finally", "synchronized", "assert", "package", "protected", "hashCode",
         "HashMap", "Random", "Thread", "\\w+Exact"};
 
     public static void main(String[] args) throws IOException {
-        methods();
+        String text = Files.readString(Path.of("src/main/java/HiccupPeace.java"));
+        Document document = new Document(Path.of("../shared/DOC.md"));
+        methods(document.face());
+        face(document, text);
+        promises(document);
+        sections(document, text);
         fieldsAndConstructors();
-        nested();
-        source(Files.readString(Path.of("src/main/java/HiccupPeace.java")));
+        nested(document.names());
+        source(text);
         check.end();
     }
 
-    private static void methods() {
-        Set<String> due = new TreeSet<>(Set.of(FACE));
+    private static void methods(List<String> face) {
+        check.due("calls of the document", face.size(), CALLS);
+        Set<String> due = new TreeSet<>();
+        for (String line : face) {
+            due.add(line.replaceAll("(int) \\w+(?=[,)])", "$1").replace(" ", ""));
+        }
         Set<String> names = new TreeSet<>();
         Set<String> got = new TreeSet<>();
         for (Method m : HiccupPeace.class.getDeclaredMethods()) {
             if (Modifier.isPublic(m.getModifiers())) {
-                got.add(m.getReturnType().getName() + " " + m.getName() + " " + m.getParameterCount());
+                got.add(m.toString().replace("HiccupPeace.", "").replace(" ", ""));
                 names.add(m.getName());
                 for (Class<?> type : m.getParameterTypes()) {
                     check.isTrue("numbers of " + m.getName() + " are ints", type == int.class);
@@ -55,6 +60,51 @@ public final class FaceTest {
             check.isTrue(m + " bears no public name", Modifier.isPublic(how) || !names.contains(m.getName()));
             check.isTrue(m + " takes seven at most", m.getParameterCount() <= 7);
         }
+    }
+
+    /** The class says what the document's face says, line by line and in its order. */
+    private static void face(Document document, String text) {
+        List<String> got = new ArrayList<>();
+        Matcher m = Pattern.compile("(?m)^ {4}(public (?:int|long) \\w+\\([^)]*\\)) \\{$").matcher(text);
+        while (m.find()) {
+            got.add(m.group(1));
+        }
+        check.isTrue("the calls are " + document.face() + " and not " + got, document.face().equals(got));
+        for (String line : document.otherLines()) {
+            String due = line.endsWith("();") ? line.replace(";", " {") : line;
+            check.isTrue("the class says " + due, text.lines().anyMatch(said -> said.strip().equals(due)));
+        }
+        check.due("its other lines", document.otherLines().size(), 3);
+    }
+
+    /** Promise 1 is the constructor, and behind it each call has one, in the order of the face. */
+    private static void promises(Document document) {
+        List<String> promised = document.promised();
+        check.due("promises", promised.size(), CALLS + 1);
+        check.isTrue("a new object comes first", promised.get(0).equals("HiccupPeace()"));
+        for (int k = 1; k < promised.size() && k <= document.face().size(); k++) {
+            String due = document.face().get(k - 1);
+            String heading = "Promise " + (k + 1) + ": " + document.names().get(k - 1);
+            check.isTrue("promise " + (k + 1) + " is of " + due, ("public " + promised.get(k)).equals(due));
+            check.isTrue("there is a heading " + heading, document.parts().containsKey(heading));
+        }
+    }
+
+    /** What the interface says ahead of some calls stands in the class, ahead of these and no others. */
+    private static void sections(Document document, String text) {
+        Map<String, List<String>> got = new LinkedHashMap<>();
+        String section = "";
+        for (String line : text.lines().toList()) {
+            Matcher call = Pattern.compile("^ {4}public (?:int|long) (\\w+)\\(.*").matcher(line);
+            if (line.strip().startsWith("// ---- ")) {
+                section = line.strip().substring(3);
+            } else if (call.matches()) {
+                got.computeIfAbsent(section, none -> new ArrayList<>()).add(call.group(1));
+            }
+        }
+        check.due("sections of the interface", document.sections().size(), 5);
+        check.isTrue("sections: " + got, new ArrayList<>(got.entrySet()).equals(
+                new ArrayList<>(document.sections().entrySet())));
     }
 
     private static void fieldsAndConstructors() {
@@ -82,7 +132,7 @@ public final class FaceTest {
         check.isTrue("it has no package", HiccupPeace.class.getPackageName().isEmpty());
     }
 
-    private static void nested() {
+    private static void nested(List<String> publicNames) {
         Class<?>[] inside = HiccupPeace.class.getDeclaredClasses();
         check.isTrue("some twelve classes at most", inside.length < 12);
         for (Class<?> c : inside) {
@@ -91,6 +141,13 @@ public final class FaceTest {
             long own = java.util.Arrays.stream(c.getDeclaredFields())
                     .filter(f -> !Modifier.isStatic(f.getModifiers())).count();
             check.isTrue(c + " has some twenty fields at most", own <= 20);
+            for (Method m : c.getDeclaredMethods()) {
+                check.isTrue(m + " bears no public name", !publicNames.contains(m.getName()));
+                check.isTrue(m + " takes seven at most", m.getParameterCount() <= 7);
+            }
+            for (Field f : c.getDeclaredFields()) {
+                check.isTrue(f + " is not static", !Modifier.isStatic(f.getModifiers()));
+            }
         }
     }
 
@@ -105,12 +162,27 @@ public final class FaceTest {
         check.isTrue("no method reference", !code.contains("::"));
         check.isTrue("no library but what is listed", code.lines().noneMatch(line -> line.startsWith("import ")
                 && !line.matches("import java\\.util\\.(ArrayList|List|Arrays|Iterator);")));
+        loops(code);
         Map<String, String> bodies = bodies(code);
-        check.isTrue("the methods are found", bodies.size() >= FACE.length);
+        check.isTrue("the methods are found", bodies.keySet().containsAll(List.of("type", "digest", "planState")));
         for (String name : bodies.keySet()) {
+            check.isTrue(name + " makes no object", name.equals("HiccupPeace") || !bodies.get(name).contains("new "));
             int deep = depth(bodies, List.of(name));
             check.isTrue(name + " goes " + deep + " calls deep, eight at most", deep <= 8);
         }
+    }
+
+    /** Each loop counts up or down to a bound that its own line tells. */
+    private static void loops(String code) {
+        check.isTrue("no while and no do", !Pattern.compile("\\b(while|do)\\b").matcher(code).find());
+        Matcher m = Pattern.compile("\\bfor \\((.*)\\) \\{").matcher(code);
+        int loops = 0;
+        while (m.find()) {
+            loops++;
+            check.isTrue("for (" + m.group(1) + ") has an end that can be seen", m.group(1).matches(
+                    "int (\\w+) = [^;]+; \\1 (<=? [^;|]+; \\1\\+\\+|>= [^;|]+; \\1--)"));
+        }
+        check.due("loops found", Pattern.compile("\\bfor\\b").matcher(code).results().count(), loops);
     }
 
     /** Each method's name with its lines, and those of its namesakes. */

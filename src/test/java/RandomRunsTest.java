@@ -5,7 +5,7 @@ import java.util.Random;
 
 /** All promises: random runs of calls, with right and wrong numbers, against the model. */
 public final class RandomRunsTest {
-    private static final int RUNS = 200, CALLS = 300;
+    private static final int RUNS = 200, CALLS = 510;
     private static final Check check = new Check();
 
     /** Each act with the least and the most of each of its numbers. */

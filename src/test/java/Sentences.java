@@ -1,32 +1,29 @@
-import java.io.IOException;
-import java.nio.file.Files;
-import java.nio.file.Path;
 import java.util.LinkedHashMap;
 import java.util.List;
 import java.util.Map;
 import java.util.function.Supplier;
 
-/** The sentences of the document's terms and promises, and the checks that stand for each of them. */
+/** The sentences of the document, and the checks that stand for each of them. */
 final class Sentences {
+    private static final List<String> LEFT_TO_FACE_TEST = List.of("# HiccupPeace", "The public face");
     private final Map<String, String> notYetSaid = new LinkedHashMap<>();
     private String section = "";
     private String quote = "";
     private int checks = 1;
     private int wrong = 0;
 
-    Sentences(Path document) throws IOException {
-        StringBuilder terms = new StringBuilder();
-        for (String part : Files.readString(document).split("(?m)^## ")) {
-            int end = part.indexOf('\n');
-            String heading = end < 0 ? part : part.substring(0, end);
-            String body = end < 0 ? "" : part.substring(end);
-            if (heading.equals("What it is")) {
-                // the first of the four parts of the terms begins here
-                terms.append(body.replaceAll("(?s)^.*======== 1 ([^\n]*)\n.*$", "$1"));
-            } else if (heading.equals("Terms")) {
-                notYetSaid.put("Terms", plain(terms.append(body).toString()));
-            } else if (heading.startsWith("Promise ")) {
-                notYetSaid.put(heading.replaceAll(":.*", ""), plain(body).replaceFirst("^ *`[^`]*`: ", ""));
+    Sentences(Document document) {
+        // the first of the four parts of the terms begins within "What it is"
+        String[] whatItIs = document.parts().getOrDefault("What it is", "").split("======== 1 ", 2);
+        String[] firstTerms = (whatItIs.length < 2 ? "" : whatItIs[1]).split("\n", 2);
+        notYetSaid.put("What it is", plain(whatItIs[0] + " " + (firstTerms.length < 2 ? "" : firstTerms[1])));
+        notYetSaid.put("Terms", plain(firstTerms[0] + " " + document.parts().getOrDefault("Terms", "")));
+        for (Map.Entry<String, String> part : document.parts().entrySet()) {
+            if (part.getKey().startsWith("Promise ")) {
+                String body = plain(part.getValue()).replaceFirst("^ *`[^`]*`: ", "");
+                notYetSaid.put(part.getKey().replaceAll(":.*", ""), body);
+            } else if (!notYetSaid.containsKey(part.getKey()) && !LEFT_TO_FACE_TEST.contains(part.getKey())) {
+                notYetSaid.put(part.getKey(), plain(part.getValue()));
             }
         }
     }
@@ -54,6 +51,12 @@ final class Sentences {
             return;
         }
         notYetSaid.put(section, rest.substring(0, at) + " " + rest.substring(at + words.length()));
+    }
+
+    /** Words that leave something free, so that no check can stand for them. */
+    void leavesFree(String words) {
+        says(words);
+        checks = 1;
     }
 
     private void closeQuote() {
@@ -138,8 +141,8 @@ final class Sentences {
                 wrong++;
             }
         }
-        if (notYetSaid.size() != 36) {
-            System.out.println("the document has other sections than Terms and promises 1 to 35: " + notYetSaid.keySet());
+        if (notYetSaid.size() != 38) {
+            System.out.println("the document has other parts than those known: " + notYetSaid.keySet());
             wrong++;
         }
         System.out.println(wrong == 0 ? "as due" : wrong + " answers are not as due");
